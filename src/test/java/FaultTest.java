@@ -89,6 +89,8 @@ public final class FaultTest {
         Check.dueFault("')", 1);
         Check.dueFault("(a ' )", 5);
         Check.dueFault("() b)c", 4);
+        Check.dueFault(")".repeat(400), 0);
+        Check.dueFault("()".repeat(199) + "(.", 399);
     }
 
     private static void ends() {

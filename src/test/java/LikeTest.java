@@ -52,6 +52,9 @@ public final class LikeTest {
         due("0", "()", false);
         due("\"\"", "()", false);
         due("()", "(())", false);
+        due("a", "(a)", false);
+        due("()", "(a)", false);
+        due("(a . b)", "(a . (b . c))", false);
         due("(a b)", "(a c)", false);
         due("(a b)", "(a b c)", false);
         due("(a b)", "(a . b)", false);

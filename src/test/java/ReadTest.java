@@ -42,6 +42,7 @@ public final class ReadTest {
         Check.dueData("'".repeat(15) + "a", 1);
         Check.dueData("('(".repeat(5) + "))".repeat(5), 1);
         Check.dueData("a ".repeat(200), 200);
+        Check.dueData("()".repeat(200), 200);
     }
 
     private static void data() {

@@ -71,6 +71,7 @@ public final class WriteTest {
         same("(quote a . b)");
         same("(\"quote\" a)");
         same("(quot a)");
+        same("(ruote a)");
         same("(quotf a)");
         same("(quotes a)");
         same("'(a . b)");
