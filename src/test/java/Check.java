@@ -146,4 +146,27 @@ final class Check {
         }
         return node + ":" + body;
     }
+
+    /**
+     * All that can be asked of a desk without a change of it: "place, counts | data | nodes".
+     * Some seven calls for each node, and an object is good for 512: for small texts.
+     */
+    static String state(DatumDesk desk) {
+        StringBuilder all = new StringBuilder();
+        all.append(desk.place());
+        for (int what = 0; what < 4; what++) {
+            all.append(' ').append(desk.count(what));
+        }
+        all.append(" |");
+        for (int k = 0; k <= desk.count(2); k++) {
+            all.append(' ').append(desk.datum(k));
+        }
+        all.append(" |");
+        for (int node = 0; node <= desk.count(1); node++) {
+            all.append(' ').append(desk.kind(node)).append('/').append(desk.value(node));
+            all.append('/').append(desk.byteAt(node, 0)).append('/').append(desk.byteAt(node, desk.value(node) - 1));
+            all.append('/').append(desk.part(node, 0)).append('/').append(desk.part(node, 1));
+        }
+        return all.toString();
+    }
 }

@@ -34,6 +34,8 @@ public final class LikeTest {
         due(quoted, quoted, true);
         String dotted = "(a . ".repeat(15) + "b" + ")".repeat(15);
         due(dotted, "(" + "a ".repeat(15) + ". b)", true);
+        String second = "(a ".repeat(15) + ")".repeat(15);
+        due(second, second, true);
         String wide = "(" + "a ".repeat(49) + ")";
         due(wide, wide, true);
     }
@@ -54,6 +56,10 @@ public final class LikeTest {
         due("()", "(())", false);
         due("a", "(a)", false);
         due("()", "(a)", false);
+        due("a", "((a))", false);
+        due("()", "((()))", false);
+        due("(a . 1)", "(a (1))", false);
+        due("(a 1)", "(a ((1)))", false);
         due("(a . b)", "(a . (b . c))", false);
         due("(a b)", "(a c)", false);
         due("(a b)", "(a b c)", false);
@@ -64,5 +70,7 @@ public final class LikeTest {
         String open = "(".repeat(15);
         String close = ")".repeat(15);
         due(open + "a" + close, open + "b" + close, false);
+        due("(a ".repeat(15) + close, "(a ".repeat(14) + "(b" + close, false);
+        due("'".repeat(15) + "a", "'".repeat(15) + "b", false);
     }
 }
